@@ -547,7 +547,7 @@ public final class StrideViews {
         }
     }
 
-    /** A view in the making, until it is settled; from then on it does not change. */
+    /** A view in the making, until it is settled and knows its items; from then on it does not change. */
     private static final class View {
         final Store store;
         int start;
@@ -560,7 +560,7 @@ public final class StrideViews {
             this.store = store;
             this.start = start;
             this.axes = 0;
-            this.items = 1;
+            this.items = 0;
         }
 
         View twin() {
@@ -568,7 +568,6 @@ public final class StrideViews {
             for (int k = 0; k < axes; k++) {
                 other.insert(k, extents[k], steps[k]);
             }
-            other.items = items;
             return other;
         }
 
@@ -607,13 +606,13 @@ public final class StrideViews {
             }
         }
 
+        /** Steps of a row of its own; without items they may be any, as settling makes them 0. */
         void lieInOrder() {
             int block = 1;
             for (int k = axes - 1; k >= 0; k--) {
                 steps[k] = block;
                 block *= extents[k];
             }
-            settle();
         }
 
         void settle() {

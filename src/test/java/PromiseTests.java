@@ -243,6 +243,7 @@ public final class PromiseTests {
     due(9, x.spread(0, 0, 1000));
     due(3000, x.told(9, 3));
     dueThrow(STATE, () -> x.spread(0, 0, 1001));
+    dueThrow(STATE, () -> x.spread(last, 0, 3001));
     dueThrow(STATE, () -> x.spread(0, 0, 1431655766));
     dueThrow(STATE, () -> x.spread(9, 0, MAX));
     int none = x.slice(0, 0, 0, 1, 0);
@@ -308,14 +309,23 @@ public final class PromiseTests {
     lies(x, x.shape(bare, 1, 1, 1), 7, 1, 0, 1, 0, 1, 0);
     dueThrow(ARGUMENT, () -> x.shape(0, NONE, NONE, NONE));
     dueThrow(ARGUMENT, () -> x.shape(0, -2, 12, NONE));
+    dueThrow(ARGUMENT, () -> x.shape(0, -2, -6, NONE));
+    dueThrow(ARGUMENT, () -> x.shape(0, NONE, -2, -6));
+    dueThrow(ARGUMENT, () -> x.shape(0, -4, NONE, -3));
     dueThrow(ARGUMENT, () -> x.shape(0, 12, MIN, NONE));
     dueThrow(ARGUMENT, () -> x.shape(0, 12, NONE, -2));
     dueThrow(ARGUMENT, () -> x.shape(0, 13, NONE, NONE));
     dueThrow(ARGUMENT, () -> x.shape(0, 0, NONE, NONE));
     dueThrow(ARGUMENT, () -> x.shape(turned, 5, 2, NONE));
+    int most = x.spread(bare, 0, 3000);
+    lies(x, x.shape(most, 1, 30, 100), 7, 1, 0, 30, 0, 100, 0);
+    dueThrow(ARGUMENT, () -> x.shape(most, 30, 100, 2));
     int none = x.slice(0, 0, 0, 1, 0);
     lies(x, x.shape(none, MAX, 5, 0), 0, MAX, 0, 5, 0, 0, 0);
     lies(x, x.shape(none, 0, 46341, 46341), 0, 0, 0, 46341, 0, 46341, 0);
+    dueThrow(ARGUMENT, () -> x.shape(none, -2, 0, NONE));
+    dueThrow(ARGUMENT, () -> x.shape(none, 0, -2, NONE));
+    dueThrow(ARGUMENT, () -> x.shape(none, 0, NONE, -2));
     dueThrow(ARGUMENT, () -> x.shape(none, 65536, 65536, NONE));
     dueThrow(ARGUMENT, () -> x.shape(none, 2097152, 2097152, 4194304));
     dueThrow(ARGUMENT, () -> x.shape(none, NONE, NONE, NONE));
@@ -531,6 +541,10 @@ public final class PromiseTests {
     int none = y.slice(0, 0, 0, 1, 0);
     due(0, y.act(0, none, y.pick(0, 0, 0), none));
     dueThrow(ARGUMENT, () -> y.act(0, none, row, table));
+    int full = y.store(2, 300);
+    int sheet = y.shape(full, 100, 3, 1);
+    due(300, y.act(3, y.pick(full, 0, 0), y.pick(0, 0, 1), sheet));
+    due(6, y.at(full, 299));
     items(y, table, -2, 0, -4, 0, 2, -2);
   }
 
@@ -614,6 +628,10 @@ public final class PromiseTests {
     due(0, x.shared(x.slice(0, 0, 0, 1, 0), 0));
     due(1, x.shared(x.pick(0, 0, 6), evens));
     due(0, x.shared(x.pick(0, 0, 7), evens));
+    due(1, x.shared(x.pick(0, 0, 0), evens));
+    due(1, x.shared(x.pick(0, 0, 0), threes));
+    due(0, x.shared(x.slice(0, 0, 1, 1, 5), x.pick(0, 0, 0)));
+    due(6, x.shared(evens, x.spread(evens, 0, 500)));
     due(2, x.shared(evens, threes));
     dueThrow(INDEX, () -> x.shared(0, 79));
     dueThrow(INDEX, () -> x.shared(-1, 0));
@@ -638,6 +656,9 @@ public final class PromiseTests {
     due(true, x.same(table, other));
     due(false, x.same(0, x.slice(0, 0, 5, -1, 6)));
     int none = x.slice(0, 0, 0, 1, 0);
+    int four = x.spread(table, 0, 3);
+    due(true, x.same(x.spread(four, 2, 1), x.spread(four, 2, 1)));
+    due(false, x.same(x.spread(four, 2, 1), x.spread(four, 1, 1)));
     due(true, x.same(none, x.store(0, 0)));
     due(false, x.same(none, x.spread(none, 0, 2)));
     due(false, x.same(x.spread(none, 0, 3), x.spread(none, 0, 2)));
@@ -685,6 +706,9 @@ public final class PromiseTests {
     int none = x.slice(table, 0, 2, 1, 0);
     int[] wantNone = {1, 0, 2, 0, 1, NONE, NONE};
     for (int what = 0; what < 7; what++) due(wantNone[what], x.told(none, what));
+    int four = x.spread(x.shape(0, 2, 3, 2), 1, 5);
+    int[] wantFour = {0, 0, 4, 60, 1, 0, 11};
+    for (int what = 0; what < 7; what++) due(wantFour[what], x.told(four, what));
     due(0, x.told(x.slice(0, 0, 0, 1, 0), 4));
     int wide = x.spread(bare, 0, 2);
     due(1, x.told(wide, 4));
